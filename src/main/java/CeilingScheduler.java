@@ -29,8 +29,6 @@ public final class CeilingScheduler {
         }
     }
 
-    // ---- setting up ----
-
     public int define(int period, int cost, int deadline, int priority, int offset) {
         if (started
                 || isOutside(period, LEAST_PERIOD, GREATEST_PERIOD)
@@ -83,8 +81,6 @@ public final class CeilingScheduler {
         return DONE;
     }
 
-    // ---- simulation ----
-
     public int event(int task) {
         if (!started || isNoTask(task)) {
             return REFUSED;
@@ -111,8 +107,6 @@ public final class CeilingScheduler {
         }
         return passed == 0 ? FULL : passed;
     }
-
-    // ---- what has come of it ----
 
     public int ran() {
         return history.lastRan;
@@ -179,8 +173,6 @@ public final class CeilingScheduler {
         }
     }
 
-    // ---- analysis ----
-
     public int blocking(int task) {
         return isNoTask(task) ? REFUSED : blockingOf(tasks.get(task));
     }
@@ -245,8 +237,6 @@ public final class CeilingScheduler {
         return true;
     }
 
-    // ---- one unit of time ----
-
     // Only a unit makes room in a queue, so once this is true it stays true.
     private boolean isStopped() {
         for (int i = 0; i < tasks.size(); i++) {
@@ -306,8 +296,6 @@ public final class CeilingScheduler {
         int held = task.heldObject();
         return held == NONE ? task.priority : Math.max(task.priority, ceilings[held]);
     }
-
-    // ---- looking things up ----
 
     private static boolean isOutside(int value, int least, int greatest) {
         return value < least || value > greatest;

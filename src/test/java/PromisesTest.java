@@ -264,6 +264,11 @@ public final class PromisesTest {
         due("cut short", z.tick(200), 25);
         due("stopped", z.tick(200), FULL);
 
+        CeilingScheduler first = started(task(2, 1, 2, 1, 0), task(60, 60, 60, 9, 0));
+        due("any task stops it", first.tick(200), 16);
+        due("stopped", first.tick(1), FULL);
+        due("not done", first.count(4), 9);
+
         // The eighth job is done in the unit before the ninth is released.
         CeilingScheduler w = started(task(60, 15, 60, 9, 0), task(2, 1, 2, 1, 0));
         due("room just in time", w.tick(17), 17);
